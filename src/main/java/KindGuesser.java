@@ -438,12 +438,10 @@ public final class KindGuesser {
             return token == ANY_LETTER || token == letters[place];
         }
 
+        /** The first line, that of no tokens, stands for the empty beginning alone: the rest of it stays false. */
         boolean fitsNameByTable(int pattern) {
             int length = lengths[pattern];
             table[0] = true;
-            for (int column = 1; column <= letterCount; column++) {
-                table[column] = false;
-            }
             for (int line = 1; line <= length; line++) {
                 fillLine(line, tokenRows[pattern * MOST_TOKENS + line - 1]);
             }

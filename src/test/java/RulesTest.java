@@ -58,6 +58,13 @@ public final class RulesTest {
                 CHECKS.same("test " + test, test, x.test(rule, test - 1, 0, 15, 255, 255));
             }
         }
+        for (int rule = 0; rule < 12; rule++) {
+            CHECKS.same("rule " + rule + " without bytes", false, x.proves(rule));
+        }
+        x.put(255);
+        for (int rule = 0; rule < 12; rule++) {
+            CHECKS.same("rule " + rule + " of a 255", true, x.proves(rule));
+        }
         CHECKS.same("a rule without tests proves nothing", false, bytes(1, 2, 3).proves(0));
         CHECKS.same("nor is there a kind by bytes", -1, bytes(1, 2, 3).byBytes());
     }
