@@ -97,6 +97,22 @@ public final class GuessEdgesTest {
             CHECKS.same("by " + priority, 3, x.guess());
             CHECKS.same("byName", 3, x.byName());
         }
+        for (int b = 0; b < 14; b++) {
+            for (int kind = 0; kind < 14; kind++) {
+                KindGuesser x = States.withKinds(14);
+                x.rule(b, 49);
+                x.test(0, 0, 0, 0, 0, 0);
+                x.put(0);
+                Written.pattern(x, kind, 0, "");
+                CHECKS.same("b is " + b + ", the name tells " + kind + ", near or in another tree", kind, x.guess());
+                Written.pattern(x, b, 0, "");
+                CHECKS.same("both are told by the name", x.isSpecial(kind, b) ? kind : b, x.guess());
+                x.drop(1);
+                x.rule(b, 50);
+                x.test(1, 0, 0, 0, 0, 0);
+                CHECKS.same("by 50", x.isSpecial(kind, b) ? kind : b, x.guess());
+            }
+        }
     }
 
     private static void looksAtThePriorityOfItsRule() {
@@ -135,6 +151,9 @@ public final class GuessEdgesTest {
                 CHECKS.same("the name 5", 13 - kind, x.guess());
                 x.letter(5);
                 CHECKS.same("the name 55", put == 0 || put == 255 ? -2 : -1, x.guess());
+                KindGuesser trees = States.withKinds(14);
+                Written.pattern(trees, kind, 0, "*");
+                CHECKS.same("a name of any tree", kind, trees.guess());
             }
         }
     }

@@ -103,7 +103,8 @@ public final class PatternEdgesTest {
                     x -> x.pattern(0, 0, 4, 0, number));
         }
         int most = 2111111111;
-        CHECKS.taken("eight tokens of great numbers", 0, PatternEdgesTest::oneKind, x -> x.pattern(0, 0, 8, most, most));
+        CHECKS.taken("eight tokens of great numbers", 0, PatternEdgesTest::oneKind,
+                x -> x.pattern(0, 0, 8, most, most));
     }
 
     private static void takesTokensFrom0To11() {
@@ -456,7 +457,8 @@ public final class PatternEdgesTest {
         first(0, "2 ahead of 1", new int[] {7, 7}, new String[] {"**", "*"});
         first(1, "8 behind 7", new int[] {7, 7}, new String[] {"*******", "00000000"});
         first(0, "8 ahead of 7", new int[] {7, 7}, new String[] {"00000000", "*******"});
-        first(2, "8 that fit behind 8 that do not", new int[] {7, 7, 7}, new String[] {"*******", "0000000", "*******0"});
+        first(2, "8 behind 7 that fit and 7 that do not", new int[] {7, 7, 7},
+                new String[] {"*******", "0000000", "*******0"});
         KindGuesser x = named("");
         Written.pattern(x, 0, 7, "");
         Written.pattern(x, 1, 7, "*");

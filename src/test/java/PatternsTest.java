@@ -38,29 +38,10 @@ public final class PatternsTest {
         return x;
     }
 
-    private static void write(KindGuesser x, String name) {
-        for (int place = 0; place < name.length(); place++) {
-            x.letter(name.charAt(place) - '0');
-        }
-    }
-
-    /** Adds a pattern written as text: digits, * for any row and ? for any letter. */
-    private static int add(KindGuesser x, int kind, int weight, String pattern) {
-        int[] numbers = new int[2];
-        int power = 1;
-        for (int place = 0; place < pattern.length(); place++) {
-            power = place % 4 == 0 ? 1 : power * 100;
-            char sign = pattern.charAt(place);
-            int token = sign == '*' ? 10 : sign == '?' ? 11 : sign - '0';
-            numbers[place / 4] += token * power;
-        }
-        return x.pattern(kind, weight, pattern.length(), numbers[0], numbers[1]);
-    }
-
     private static void fit(String pattern, String name, boolean due) {
         KindGuesser x = oneKind();
-        add(x, 0, 0, pattern);
-        write(x, name);
+        Written.pattern(x, 0, 0, pattern);
+        Written.name(x, name);
         CHECKS.same("'" + pattern + "' fits '" + name + "'", due, x.fits(0));
         CHECKS.same("'" + pattern + "' fitsByTable '" + name + "'", due, x.fitsByTable(0));
         CHECKS.same("byName of '" + pattern + "' and '" + name + "'", due ? 0 : -1, x.byName());
@@ -124,21 +105,21 @@ public final class PatternsTest {
         CHECKS.same("five tokens, 99s above", 3, x.pattern(0, 0, 5, 1, 1999999911));
         CHECKS.same("eight tokens, digits above", 4, x.pattern(0, 0, 8, 2003020100, 2107060504));
         CHECKS.same("no tokens fit the empty name", true, x.fits(0));
-        write(x, "3");
+        Written.name(x, "3");
         CHECKS.same("the one token fits", true, x.fits(1));
         x.empty();
-        write(x, "5123");
+        Written.name(x, "5123");
         CHECKS.same("the four tokens fit", true, x.fits(2));
         x.empty();
-        write(x, "5223");
+        Written.name(x, "5223");
         CHECKS.same("the four tokens do not fit another second letter", false, x.fits(2));
         x.empty();
-        write(x, "1000");
+        Written.name(x, "1000");
         CHECKS.same("the five tokens do not fit four letters", false, x.fits(3));
-        write(x, "7");
+        Written.name(x, "7");
         CHECKS.same("the five tokens fit", true, x.fits(3));
         x.empty();
-        write(x, "01234567");
+        Written.name(x, "01234567");
         CHECKS.same("the eight tokens fit", true, x.fits(4));
         CHECKS.same("the eight tokens fit by table", true, x.fitsByTable(4));
     }
@@ -170,21 +151,21 @@ public final class PatternsTest {
             x.kind(-1);
         }
         CHECKS.same("byName without patterns", -1, x.byName());
-        add(x, 0, 30, "1*");
+        Written.pattern(x, 0, 30, "1*");
         CHECKS.same("byName with one that does not fit", -1, x.byName());
-        write(x, "12");
+        Written.name(x, "12");
         CHECKS.same("byName with one", 0, x.byName());
-        add(x, 1, 30, "*2");
+        Written.pattern(x, 1, 30, "*2");
         CHECKS.same("lower number first", 0, x.byName());
-        add(x, 2, 30, "1**");
+        Written.pattern(x, 2, 30, "1**");
         CHECKS.same("longer first", 2, x.byName());
-        add(x, 3, 31, "*");
+        Written.pattern(x, 3, 31, "*");
         CHECKS.same("greater weight first, however short", 3, x.byName());
-        add(x, 4, 29, "*******");
+        Written.pattern(x, 4, 29, "*******");
         CHECKS.same("less weight, however long", 3, x.byName());
-        add(x, 5, 100, "13*");
+        Written.pattern(x, 5, 100, "13*");
         CHECKS.same("one that does not fit", 3, x.byName());
-        add(x, 6, 31, "*");
+        Written.pattern(x, 6, 31, "*");
         CHECKS.same("lower number of equals", 3, x.byName());
         x.drop(3);
         CHECKS.same("without pattern 3", 6, x.byName());
@@ -197,13 +178,13 @@ public final class PatternsTest {
         x.drop(1);
         CHECKS.same("without pattern 1", 4, x.byName());
         x.empty();
-        write(x, "13");
+        Written.name(x, "13");
         CHECKS.same("another name", 5, x.byName());
     }
 
     private static void fitsAnewWithEachLetter() {
         KindGuesser x = oneKind();
-        add(x, 0, 0, "*12");
+        Written.pattern(x, 0, 0, "*12");
         String due = "ffftftfft";
         String name = "31212012";
         for (int count = 0; count <= 8; count++) {

@@ -321,6 +321,7 @@ public final class ProgramEdgesTest {
         x.kind(-1);
         for (int program = 0; program <= 9; program++) {
             x.program(0, program % 3, program, ADDED);
+            x.setDefault(program % 3, program % 4, program);
         }
         return x;
     }
@@ -330,16 +331,24 @@ public final class ProgramEdgesTest {
         CHECKS.taken("the last one of 10", 9, ProgramEdgesTest::allAndNone, x -> x.programAt(2, 9));
         CHECKS.taken("the first one of 10", 2, ProgramEdgesTest::allAndNone, x -> x.programAt(2, 0));
         for (int place : States.outside(0, 9)) {
-            CHECKS.outOfBounds("programAt " + place + " of 10", ProgramEdgesTest::allAndNone, x -> x.programAt(2, place));
+            CHECKS.outOfBounds("programAt " + place + " of 10", ProgramEdgesTest::allAndNone,
+                    x -> x.programAt(2, place));
         }
         for (int place : States.outside(0, 3)) {
-            CHECKS.outOfBounds("programAt " + place + " of 4", ProgramEdgesTest::allAndNone, x -> x.programAt(0, place));
+            CHECKS.outOfBounds("programAt " + place + " of 4", ProgramEdgesTest::allAndNone,
+                    x -> x.programAt(0, place));
         }
         for (int place : States.outside(0, -1)) {
             CHECKS.outOfBounds("programAt " + place + " of none", ProgramEdgesTest::allAndNone,
                     x -> x.programAt(3, place));
         }
         CHECKS.outOfBounds("programAt 0 of none", ProgramEdgesTest::allAndNone, x -> x.programAt(3, 0));
+        for (int kind = 0; kind < 14; kind++) {
+            int k = kind;
+            int count = States.full().programs(kind);
+            CHECKS.outOfBounds("programAt " + count + " of " + k, States::full, x -> x.programAt(k, count));
+            CHECKS.outOfBounds("programAt -1 of " + k, States::full, x -> x.programAt(k, -1));
+        }
     }
 
     private static void answersNoDefault() {

@@ -9,7 +9,8 @@ final class Report {
     static final String ALIKE = "alike";
 
     enum Respect {
-        KINDS, NAME, OTHER_NAMES, BYTES, OTHER_BYTES, PROGRAMS, STANDINGS_OF_LOW_KINDS, STANDINGS_OF_HIGH_KINDS
+        KINDS, NAME, OTHER_NAMES, PATTERNS, PATTERNS_OF_ANOTHER_NAME, BYTES, OTHER_BYTES, PROGRAMS,
+        STANDINGS_OF_LOW_KINDS, STANDINGS_OF_HIGH_KINDS
     }
 
     private static final String[] NAMES = {"", "0", "9", "31", "314159265358", "00000000"};
@@ -30,6 +31,12 @@ final class Report {
             case KINDS -> report.tellKinds();
             case NAME -> report.tellName();
             case OTHER_NAMES -> report.tellOtherNames();
+            case PATTERNS -> report.tellDrops();
+            case PATTERNS_OF_ANOTHER_NAME -> {
+                x.empty();
+                Written.name(x, "0");
+                report.tellDrops();
+            }
             case BYTES -> report.tellBytes();
             case OTHER_BYTES -> report.tellOtherBytes();
             case PROGRAMS -> report.tellPrograms();
@@ -75,6 +82,16 @@ final class Report {
         }
     }
 
+    /** Tells the kinds of all patterns that fit the name, by dropping one after the other. */
+    private void tellDrops() {
+        tell("byName", x::byName);
+        for (int pattern = 0; pattern < 20; pattern++) {
+            int p = pattern;
+            tell("drop " + p, () -> x.drop(p));
+            tell("byName after it", x::byName);
+        }
+    }
+
     private void tellName() {
         tellPatterns();
         tell("guess", x::guess);
@@ -85,10 +102,6 @@ final class Report {
         tell("the next letter", () -> x.letter(0));
         tellPatterns();
         tell("the next pattern", () -> x.pattern(0, 0, 0, 0, 0));
-        for (int pattern = 0; pattern < 20; pattern++) {
-            int p = pattern;
-            tell("drop " + p, () -> x.drop(p));
-        }
     }
 
     private void tellOtherNames() {

@@ -296,6 +296,8 @@ public final class RuleEdgesTest {
             int r = rule;
             CHECKS.taken("the sixth of " + r, 6, () -> States.lessThanFull(1), x -> x.test(r % 11, 0, 0, 0, 0, 0));
             CHECKS.badState("the seventh of " + r, States::full, x -> x.test(r, 0, 0, 15, 0, 0));
+            CHECKS.badState("the seventh of " + r + " at 0", States::full, x -> x.test(r, 0, 0, 0, 255, 255));
+            CHECKS.badState("the seventh of " + r + " at 15", States::full, x -> x.test(r, 0, 15, 15, 255, 255));
         }
         CHECKS.taken("the first one of the next rule", 1, () -> {
             KindGuesser x = chain(6);
@@ -313,7 +315,7 @@ public final class RuleEdgesTest {
         for (int level : States.outside(0, 6)) {
             CHECKS.badArgument("no level, full", () -> chain(6), x -> x.test(0, level, 0, 0, 0, 0));
         }
-        CHECKS.badArgument("the level 1 after 5 and 0 is not its own, full", () -> {
+        CHECKS.badArgument("the level 2 after the sixth at 0, full", () -> {
             KindGuesser x = chain(5);
             x.test(0, 0, 0, 0, 0, 0);
             return x;

@@ -43,9 +43,7 @@ public final class RulesTest {
 
     private static KindGuesser bytes(int... values) {
         KindGuesser x = oneRule();
-        for (int value : values) {
-            x.put(value);
-        }
+        Written.bytes(x, values);
         return x;
     }
 
